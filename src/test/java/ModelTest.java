@@ -6,7 +6,9 @@ import java.util.TreeMap;
 
 /** Runs of calls by chance (always the same ones) against a second, slow reading of the document. */
 public final class ModelTest {
-    private static final int RUNS = 600, CALLS = 150;
+    private static final int RUNS = 1000, CALLS = 150;
+    /** What the model does slowly is asked a few times only. */
+    private static final int DEAR_CALLS = 15;
 
     /** The document told once more, by going through all and with no thought of speed. */
     private static final class Model {
@@ -497,15 +499,12 @@ public final class ModelTest {
     private final HouseSorted real = new HouseSorted();
     private final Model model = new Model();
     private final int mostWorth;
-    private final int dearCalls;
     private int dear = 0;
     private int wrong = 0;
 
     private ModelTest(int seed) {
         chance = new Random(seed);
         mostWorth = new int[] {3, 12, 100}[seed % 3];
-        // What the model does slowly is asked a few times only.
-        dearCalls = 12;
     }
 
     private void same(String call, int got, int want) {
@@ -645,7 +644,7 @@ public final class ModelTest {
 
     private void dearCall(int rule, int h, int t) {
         dear++;
-        if (dear > dearCalls) {
+        if (dear > DEAR_CALLS) {
             return;
         }
         int way = some(0, 4);
@@ -672,7 +671,35 @@ public final class ModelTest {
         }
     }
 
+    /** Many HEIRS want many THINGS. */
+    private void fillHouse() {
+        int heirs = 1 + chance.nextInt(4);
+        int things = 4 + chance.nextInt(7);
+        for (int h = 0; h < heirs; h++) {
+            same("heir", real.heir(), model.heir());
+        }
+        for (int t = 0; t < things; t++) {
+            int weight = 1 + chance.nextInt(50);
+            same("thing", real.thing(weight, 0, 0, 0, 8), model.thing(weight, 0, 0, 0, 8));
+            for (int h = 0; h < heirs; h++) {
+                int v = chance.nextInt(mostWorth + 1);
+                same("worth", real.worth(h, t, v), model.worth(h, t, v));
+            }
+        }
+        for (int h = 0; h < heirs; h++) {
+            same("gain", real.gain(h % 2, h), model.gain(h % 2, h));
+        }
+        same("fairest", real.fairest(), model.fairest());
+        same("loads", real.loads(0), model.loads(0));
+        for (int t = 0; t < things; t += 3) {
+            same("load", real.load(t), model.load(t));
+        }
+    }
+
     private int run() {
+        if (chance.nextBoolean()) {
+            fillHouse();
+        }
         for (int n = 0; n < CALLS; n++) {
             int kind = chance.nextInt(20);
             if (kind == 0) {

@@ -159,6 +159,7 @@ public final class PromisesTest {
         dueFault("keep 5;\u00a0", 7, 1);
         dueFault("  paper 5;", 2, 1);
         dueFault("keeps 5;", 0, 1);
+        dueFault("beep 5;", 0, 1);
         dueFault("kee 5;", 0, 1);
         dueFault("va 5;", 0, 1);
         dueFault("vann 5;", 0, 1);
@@ -185,9 +186,10 @@ public final class PromisesTest {
         dueFault("keep 5   ", 9, 2);
         dueFault("fur", 3, 2);
         dueFault("fur 1;", 4, 2);
-        dueFault("fur keep;", 4, 2);
-        dueFault("gun van;", 4, 2);
-        dueFault("gun gun;", 4, 2);
+        for (String name : new String[] {"keep", "van", "look", "fur", "gun"}) {
+            dueFault("fur " + name + ";", 4, 2);
+            dueFault("gun " + name + ";", 4, 2);
+        }
         dueFault("gun;", 3, 2);
         dueFault("keep 100;", 5, 3);
         dueFault("sale 1001;", 5, 3);
@@ -500,8 +502,16 @@ public final class PromisesTest {
         due("17 heir", x.gain(0, 2), HouseSorted.BAD);
         due("17 heir", x.gain(0, -1), HouseSorted.BAD);
         due("17 no heirs: no such heir", new HouseSorted().gain(0, 0), HouseSorted.BAD);
-        x = withWorths(new int[][] {{100, 100, 0, 3}, {0, 100, 100, 2}});
-        due("17 a tie broken", x.gain(1, 0), gainByAll(x, 1, 0, 4));
+        // as it is 0: 0, 1: 2, 0: 1 (19); with 11 told for 2, it gets 2, 0 and 1 (27)
+        x = withWorths(new int[][] {{10, 9, 8, 0, 0}, {0, 0, 50, 40, 30}});
+        due("17 gain by telling more", x.gain(0, 0), 8);
+        x = withWorths(new int[][] {{100, 99, 98, 0, 0}, {0, 0, 50, 40, 30}});
+        due("17 gain by telling more, a tie is not enough", x.gain(0, 0), 0);
+        x = withWorths(new int[][] {{10, 8, 10, 0, 0}, {50, 0, 0, 40, 30}});
+        due("17 a tie is enough for the least number", x.gain(0, 1), gainByAll(x, 0, 1, 5));
+        // 100 is told for 0: of several with 100 it is the least number
+        x = withWorths(new int[][] {{98, 100, 100, 0, 0}, {50, 0, 0, 40, 30}});
+        due("17 gain by telling 100", x.gain(0, 0), 98);
         x = new HouseSorted();
         x.heir();
         due("17 nothing shared", x.gain(0, 0), 0);
@@ -638,6 +648,14 @@ public final class PromisesTest {
         due("23 what", x.settled(0, 4), -100000);
         due("23 what", x.settled(0, -1), -100000);
         due("23 no heirs", new HouseSorted().settled(0, 0), -100000);
+        x = withWorths(new int[][] {{3, 4}});
+        due("23 one heir's claim is all", x.settled(0, 1), 7);
+        due("23 one heir pays nothing", x.settled(0, 3), 0);
+        x = withWorths(new int[][] {{5, 0}, {5, 6}, {0, 2}});
+        due("23 a claim divided down", x.settled(0, 1), 1);
+        due("23 the least number of several gets it", x.settled(0, 0), 5);
+        due("23 pays", x.settled(0, 2), 4);
+        due("23 what is over is divided down", x.settled(0, 3), 2);
         x = new HouseSorted();
         x.heir();
         due("23 nothing shared", x.settled(0, 3), 0);
@@ -727,7 +745,10 @@ public final class PromisesTest {
         due("28 the last cell", x.worths(0, 3, 2, 59), 1);
         due("26 refused", x.sheet(3, 2, -5), -14);
         due("26 it is as it was", x.worths(0, 3, 2, 59), 0);
+        x.lay(3, 0, 1);
         due("26 new again", x.sheet(3, 1, 60), 1);
+        due("28 the first cell is 0", x.worths(0, 3, 1, 0), 1);
+        x.worth(0, 0, 1);
         due("28 all cells are 0", x.worths(0, 3, 1, 59), 1);
         due("9 worth", x.worth(0, 0, 0), 0);
     }
