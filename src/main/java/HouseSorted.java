@@ -852,13 +852,22 @@ public final class HouseSorted {
             }
         }
 
+        /** What each HEIR still lacks must come from what is left, and each THING ends the lack of one HEIR at most. */
         private boolean mayBeBetter(int left, int total) {
-            int mostTotal = total + richest[left];
-            int least = mostTotal / Math.max(1, house.heirs);
+            int needed = total + richest[left] > bestTotal ? bestLeast : bestLeast + 1;
+            int lacking = 0;
+            int poor = 0;
             for (int heir = 0; heir < house.heirs; heir++) {
-                least = Math.min(least, sums[heir] + within[heir][left]);
+                int lack = needed - sums[heir];
+                if (lack > within[heir][left]) {
+                    return false;
+                }
+                if (lack > 0) {
+                    lacking += lack;
+                    poor++;
+                }
             }
-            return least != bestLeast ? least > bestLeast : mostTotal > bestTotal;
+            return lacking <= richest[left] && poor <= left;
         }
 
         private int leastSum() {
